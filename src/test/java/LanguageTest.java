@@ -1,0 +1,55 @@
+import java.io.IOException;
+import java.nio.file.Files;
+import java.nio.file.Path;
+import java.util.List;
+import java.util.regex.Matcher;
+import java.util.regex.Pattern;
+
+/** Rules of LANGUAGE.md that can be seen from the words of the source; it is run in the project's folder. */
+public final class LanguageTest {
+    private static final Check check = new Check();
+    private static final Path SOURCE = Path.of("src/main/java/MadeTraffic.java");
+    private static final String[] RULED_OUT = {"\\bthrows?\\b", "\\btry\\b", "\\bcatch\\b", "\\bfinally\\b",
+        "\\bsynchronized\\b", "\\bassert\\b", "->", "::", "\\bpackage\\b", "\\bvolatile\\b", "\\bnative\\b",
+        "\\bObject\\b", "\\bRandom\\b", "\\bThread\\b", "\\bnanoTime\\b", "\\bcurrentTimeMillis\\b", "Exact\\b",
+        "\\bhashCode\\b", "\\btoString\\b", "\\bString\\.", "\\bformat\\b", "\\bSystem\\.(?!arraycopy\\b)",
+        "\\bArrays\\.(?!(copyOf|copyOfRange|fill)\\b)", "@", "\\bprotected\\b", "\\bvar\\b", "\\bHash", "\\bMap\\b"};
+
+    public static void main(String[] args) throws IOException {
+        String text = Files.readString(SOURCE);
+        for (int i = 0; i < text.length(); i++) {
+            char c = text.charAt(i);
+            if (c != '\n' && (c < 32 || c > 126)) {
+                check.isTrue("plain signs alone, byte " + i, false);
+            }
+        }
+        String code = text.replaceAll("//[^\n]*", "").replaceAll("\"[^\"\n]*\"", "\"\"");
+        for (String word : RULED_OUT) {
+            Matcher m = Pattern.compile(word).matcher(code);
+            check.isTrue("without " + word, !m.find());
+        }
+        Matcher imports = Pattern.compile("import ([^;]*);").matcher(code);
+        while (imports.find()) {
+            check.isTrue("import " + imports.group(1), List.of("java.util.Arrays", "java.util.ArrayList",
+                    "java.util.List", "java.util.Iterator").contains(imports.group(1)));
+        }
+        check.isTrue("texts are not joined by +", !Pattern.compile("\"\"\\s*\\+|\\+\\s*\"\"").matcher(code).find());
+        methodsAreShort(code);
+        check.end();
+    }
+
+    private static void methodsAreShort(String code) {
+        String[] lines = code.split("\n");
+        for (int i = 0; i < lines.length; i++) {
+            if (!lines[i].matches("\\s+(?!if|for|while|switch|else)[\\w\\[\\] ]+\\([^;]*\\) \\{")) {
+                continue;
+            }
+            String close = lines[i].replaceAll("\\S.*", "") + "}";
+            int end = i;
+            while (end < lines.length && !lines[end].equals(close)) {
+                end++;
+            }
+            check.isTrue("short: " + lines[i].trim(), end - i <= 60);
+        }
+    }
+}
