@@ -8,6 +8,7 @@ public final class FitsTest {
         costs();
         costsThatAreNone();
         bests();
+        bestsOfAllShapes();
         bestOfDeepNames();
         bestIsOfTheGridAlone();
         shapes();
@@ -89,6 +90,28 @@ public final class FitsTest {
             Check.asks(x, i, names[i], 1);
             bestByTrying(x);
         }
+    }
+
+    /** Rows of few and of many names, by a fixed seed: their bests are of all shapes. */
+    private static void bestsOfAllShapes() {
+        java.util.Random random = new java.util.Random(5);
+        int shapes = 0;
+        int news = 0;
+        for (int row = 0; row < 400; row++) {
+            MadeTraffic x = new MadeTraffic();
+            int names = 1 + random.nextInt(10);
+            int kept = 1 + random.nextInt(names);
+            int many = 1 + random.nextInt(40);
+            for (int i = 0; i < many; i++) {
+                int name = i < names ? i : random.nextInt(3) == 0 ? random.nextInt(names) : i % kept;
+                Check.asks(x, i, name, 1);
+            }
+            bestByTrying(x);
+            shapes |= 1 << x.best(0) / 10;
+            news |= 1 << x.best(0) % 10;
+        }
+        check.due("each shape was best of some row", shapes, 15);
+        check.isTrue("several NEWs were best", Integer.bitCount(news) >= 3);
     }
 
     /** The best is what cost() tells as least when each of the grid is told. */

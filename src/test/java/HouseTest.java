@@ -18,6 +18,10 @@ public final class HouseTest {
     private static void houses() {
         MadeTraffic x = new MadeTraffic();
         int[][] bad = {{0, 1, 0}, {7, 1, 0}, {1, 0, 0}, {1, 10, 0}, {1, 1, -1}, {1, 1, 100}};
+        Check.asks(x, 0, 0, 1, 0, 1, 1, 0, 2, 1, 0, 0, 1, 0, 2, 1);
+        check.due("at first for two names: only the last is a hit", x.number(0, 0, 0), 1);
+        check.due("two went out", x.number(0, 5, 0), 2);
+        x = new MadeTraffic();
         Check.asks(x, 0, 0, 3);
         check.due("at first 1 and 5 more and 3", x.number(0, 3, 0), 9);
         for (int[] b : bad) {

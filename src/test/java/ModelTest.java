@@ -85,6 +85,9 @@ public final class ModelTest {
         fault("  7", 2, 1);
         fault("Gap 1 1;", 0, 1);
         fault("gapp 1 1;", 0, 1);
+        fault("gapz 1 1;", 0, 1);
+        fault("gapa 1 1;", 0, 1);
+        fault("aap 1 1;", 0, 1);
         fault("ga 1 1;", 0, 1);
         fault("gap gap 1;", 4, 1);
         fault("gap ; 1;", 4, 1);
@@ -322,6 +325,9 @@ public final class ModelTest {
         check.due("the last", x.told(1, 39, 0), 21);
         check.due("the last", x.told(1, 39, 1), 0);
         check.due("28", x.stretch(2), 28);
+        check.due("56, cut", x.stretch(4), 40);
+        check.due("the last", x.told(1, 39, 0), 17);
+        check.due("the last", x.told(1, 39, 1), 3);
         check.due("as it is", x.stretch(1), 14);
     }
 }
