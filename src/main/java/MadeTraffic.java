@@ -694,7 +694,6 @@ public final class MadeTraffic {
         final boolean[] isLeftOut = new boolean[HOW_MANY_PARTS];
         final int[] noWeights = new int[SLOTS];
 
-
         int[] weightsIfNot(int part, int leftOutToo) {
             return isLeftOut[part] || part == leftOutToo ? noWeights : weights[part];
         }
@@ -1100,7 +1099,7 @@ public final class MadeTraffic {
         }
 
         private void leaveNumber(int body) {
-            if (isBelow(begun, bodies.length)) {
+            if (begun >= 0 && begun < bodies.length) {
                 bodies[begun] = body;
                 begun++;
             }
