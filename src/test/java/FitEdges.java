@@ -182,6 +182,14 @@ final class FitEdges {
         int[] due = tried(x);
         e.due("of one name", x.best(0), due[0]);
         e.due("its cost", x.best(1), due[1]);
+        // Four names in turn: only shape 1 with NEW 1 has 3 bits for depth 3, 7 of 56.
+        int[] turns = new int[40];
+        for (int i = 0; i < 40; i++) {
+            turns[i] = i % 4;
+        }
+        x = Edges.withNames(turns);
+        e.due("of four names in turn", x.best(0), 11);
+        e.due("its cost", x.best(1), 88 + 4 * 6 + 36 * 3);
         e.says("Terms 3", "(NONE is no COST)");
         x = Edges.withNames(0, 1, 2, 3, 4, 5, 6, 7, 8, 9, 9, 9, 9, 9, 9, 9, 9, 9, 9, 9);
         e.due("shape 2, as long as nothing lies at depth 9", x.best(0) / 10, 2);

@@ -157,6 +157,27 @@ final class HouseEdges {
         numbersAre(e, x, 3, 1, 0, 0, 0, 54, 2, 0);
     }
 
+    /** A true row and, from a model of all parts, a made one. */
+    private static MadeTraffic anyAsks(java.util.Random random) {
+        MadeTraffic x = new MadeTraffic();
+        int tick = 0;
+        for (int i = random.nextInt(9); i >= 0; i--) {
+            tick += random.nextInt(9);
+            Check.asks(x, tick, random.nextInt(4), 1 + random.nextInt(9));
+        }
+        Check.model(x, "gap 0 1; gap 3 2; gap 8 1; depth 0 2; depth 1 2; new 2; great 1 2; great 5 1; walk 0 2 1; walk 2 0 1;");
+        x.make(random.nextLong(), random.nextInt(10));
+        return x;
+    }
+
+    private static void likesByNumbers(Edges e, MadeTraffic x, int k) {
+        for (int what = 0; what < 6; what++) {
+            int far = Math.abs(x.number(1, what, k) - x.number(0, what, k));
+            int halves = Math.abs(x.number(2, what, k) - x.number(3, what, k));
+            e.due("unlike in " + what + " by " + k, x.unlike(k) >> what & 1, far > halves ? 1 : 0);
+        }
+    }
+
     private static void likes(Edges e) {
         e.says("Terms 2", "the MADE row's is no farther from the TRUE row's than those of the HALVES are from one another");
         // Two true names; the halves have two and one: a made row may have one to three.
@@ -166,6 +187,10 @@ final class HouseEdges {
         for (int n = 0; n <= 5; n++) {
             x.make(1, n);
             e.due("like in names, " + n + " of them", 1 - (x.unlike(0) >> 4 & 1), isLike[n]);
+        }
+        java.util.Random random = new java.util.Random(3);
+        for (int row = 0; row < 60; row++) {
+            likesByNumbers(e, anyAsks(random), random.nextInt(5));
         }
         e.says("Terms 2", "UNLIKE: the set of NUMBERS in which it is not.");
         e.due("none and none", new MadeTraffic().unlike(0), 0);
@@ -221,6 +246,17 @@ final class HouseEdges {
             x.make(5, n);
             e.due("as many: " + n, worth, x.unlike(0) & ~unlike);
             x.leave(1, 0);
+        }
+        // Of lots that differ by the seed: true and made rows that are told by all parts.
+        for (int seed = 0; seed < 40; seed++) {
+            MadeTraffic y = anyAsks(new java.util.Random(seed));
+            y.make(7L * seed, y.count(1));
+            int unlike = y.unlike(0);
+            int part = seed % 4;
+            int worth = y.worth(part, 0);
+            y.leave(part, 1);
+            y.make(7L * seed, y.count(1));
+            e.due("from seed " + 7 * seed + ", part " + part, worth, y.unlike(0) & ~unlike);
         }
         e.says("Promise 19", "WORTH of a PART by k: bits.");
         x.make(5, 3);

@@ -1,7 +1,10 @@
 import java.io.IOException;
 import java.nio.file.Files;
 import java.nio.file.Path;
+import java.util.Arrays;
 import java.util.List;
+import java.util.Map;
+import java.util.TreeMap;
 import java.util.regex.Matcher;
 import java.util.regex.Pattern;
 
@@ -38,10 +41,13 @@ public final class LanguageTest {
         check.end();
     }
 
+    /** By names: each method's words, and so which methods it calls; a name of two methods stands for both. */
     private static void methodsAreShort(String code) {
+        Map<String, String> bodies = new TreeMap<>();
         String[] lines = code.split("\n");
         for (int i = 0; i < lines.length; i++) {
-            if (!lines[i].matches("\\s+(?!if|for|while|switch|else)[\\w\\[\\] ]+\\([^;]*\\) \\{")) {
+            Matcher head = Pattern.compile("\\s+(?!if|for|while|switch|else)[\\w\\[\\] ]*?(\\w+)\\([^;]*\\) \\{").matcher(lines[i]);
+            if (!head.matches()) {
                 continue;
             }
             String close = lines[i].replaceAll("\\S.*", "") + "}";
@@ -50,6 +56,23 @@ public final class LanguageTest {
                 end++;
             }
             check.isTrue("short: " + lines[i].trim(), end - i <= 60);
+            String body = String.join("\n", Arrays.copyOfRange(lines, Math.min(i + 1, end), end));
+            bodies.merge(head.group(1), body, String::concat);
         }
+        check.isTrue("methods were found: " + bodies.size(), bodies.size() > 50);
+        for (String name : bodies.keySet()) {
+            check.isTrue("calls go at most eight deep from " + name, depth(name, bodies, 0) <= 8);
+        }
+    }
+
+    private static int depth(String name, Map<String, String> bodies, int ahead) {
+        int deepest = 0;
+        Matcher calls = Pattern.compile("\\b(\\w+)\\(").matcher(bodies.get(name));
+        while (ahead < 12 && calls.find()) {
+            if (bodies.containsKey(calls.group(1))) {
+                deepest = Math.max(deepest, depth(calls.group(1), bodies, ahead + 1));
+            }
+        }
+        return 1 + deepest;
     }
 }

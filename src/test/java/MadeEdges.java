@@ -6,6 +6,7 @@ final class MadeEdges {
         lots(e);
         draws(e);
         drawsOfNames(e);
+        deepDraws(e);
         noWeights(e);
         ticks(e);
         names(e);
@@ -106,6 +107,36 @@ final class MadeEdges {
         x.make(Edges.seedFor(2, 10, 0), 3);
         e.due("the second is new", x.told(1, 1, 1), 1);
         e.due("depth 1 of two", x.told(1, 2, 1), 0);
+    }
+
+    /** Draws the depths of a row by hand: each must be the one that the row then tells. */
+    private static void deepDraws(Edges e) {
+        e.says("Terms 2", "if fewer than 10 were");
+        int[] weights = {3, 2, 4, 1, 2, 1, 1, 2, 1, 3};
+        StringBuilder text = new StringBuilder("new 6;");
+        for (int d = 0; d < 10; d++) {
+            text.append("depth ").append(d).append(' ').append(weights[d]).append(';');
+        }
+        MadeTraffic x = Edges.withModel(text.toString());
+        for (long seed = 0; seed < 6; seed++) {
+            int[] lots = Edges.lots(seed, 40);
+            x.make(seed, 40);
+            int names = 0;
+            for (int i = 0; i < 40; i++) {
+                int all = names < 10 ? 6 : 0;
+                for (int d = 0; d < names; d++) {
+                    all += weights[d];
+                }
+                int due = 0;
+                int added = names == 0 ? 0 : weights[0];
+                while (due < names && added <= lots[i] % all) {
+                    due++;
+                    added += due < names ? weights[due] : 6;
+                }
+                e.due("ask " + i + " of seed " + seed, x.told(1, i, 3), due == names ? Edges.NONE : due);
+                names += due == names ? 1 : 0;
+            }
+        }
     }
 
     private static void noWeights(Edges e) {

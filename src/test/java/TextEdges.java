@@ -124,6 +124,10 @@ final class TextEdges {
             fault(e, all + " new 1;", all.length() + 1, 1);
             fault(e, all + ";;", all.length() + 1, 1);
             fault(e, all + "; 1;", all.length() + 2, 1);
+            for (int i = 0; i < words[w].length(); i++) {
+                String other = words[w].substring(0, i) + "q" + words[w].substring(i + 1);
+                fault(e, other + " 1".repeat(numbers[w]) + ";", 0, 1);
+            }
             fault(e, words[w].substring(1) + " 1".repeat(numbers[w]) + ";", 0, 1);
             fault(e, words[w].substring(0, words[w].length() - 1) + " 1".repeat(numbers[w]) + ";", 0, 1);
             fault(e, words[w] + words[w] + " 1".repeat(numbers[w]) + ";", 0, 1);
@@ -237,6 +241,16 @@ final class TextEdges {
         fault(e, "\n\nnew", 5, 1);
         fault(e, "new 1; new 0099 \n", 17, 1);
         well(e, "gap 1 1;", 1);
+        // What an earlier text left behind the end is not there.
+        String[] cut = {"new", "gap 1", "gap 1 1", "gap 1 1 ", "new 1; depth"};
+        String[] earlier = {"2", "w", ";", " ", "#"};
+        for (String text : cut) {
+            for (String sign : earlier) {
+                MadeTraffic x = new MadeTraffic();
+                Check.model(x, sign.repeat(20));
+                e.due("'" + text + "' behind " + sign, Check.model(x, text), -1000100 - text.length());
+            }
+        }
     }
 
     private static void partsLeftOut(Edges e) {
@@ -327,6 +341,14 @@ final class TextEdges {
         e.due("all are as they were", x.model(), 39);
         e.due("at 13, behind one that tells 0", Check.model(x, "gap 0 0; new 100;"), -1000113);
         e.due("it does not hold", x.weight(0, 0), 1);
+        e.due("nor behind a text that is well", Check.model(x, "great 9 7;"), 39);
+        e.due("it does not hold", x.weight(0, 0), 1);
+        x.shape(3, 2);
+        e.due("what shape() gave stays", Check.model(x, "great 9 8;"), 39);
+        e.due("NEW of the shape", x.weight(1, 10), 2);
+        x.learn(0, 0, 1);
+        e.due("what learn() gave stays", Check.model(x, "great 9 8;"), 28);
+        e.due("NEW learned", x.weight(1, 10), 0);
     }
 
     private static void faultNumbers(Edges e) {
