@@ -197,26 +197,13 @@ public final class ModelTest {
         check.due("still 3", x.count(2), 3);
     }
 
-    /** The lots of a seed, as the document tells them. */
-    private static int[] lots(long seed, int n) {
-        java.math.BigInteger x = java.math.BigInteger.valueOf(seed);
-        java.math.BigInteger round = java.math.BigInteger.ONE.shiftLeft(64);
-        int[] lots = new int[n];
-        for (int i = 0; i < n; i++) {
-            x = x.multiply(new java.math.BigInteger("6364136223846793005"))
-                    .add(new java.math.BigInteger("1442695040888963407")).mod(round);
-            lots[i] = x.shiftRight(33).intValueExact();
-        }
-        return lots;
-    }
-
     private static void makingByHand() {
         long[] seeds = {0, 1, -1, 77, Long.MIN_VALUE, Long.MAX_VALUE};
         for (long seed : seeds) {
             MadeTraffic x = new MadeTraffic();
             Check.model(x, "gap 3 1; gap 7 2; great 1 1; great 9 4;");
             check.due("two lots each", x.make(seed, 40), 80);
-            int[] lots = lots(seed, 80);
+            int[] lots = Edges.lots(seed, 80);
             int tick = 0;
             for (int i = 0; i < 40; i++) {
                 tick += lots[2 * i] % 3 < 1 ? 3 : 7;
@@ -243,7 +230,7 @@ public final class ModelTest {
         MadeTraffic y = new MadeTraffic();
         Check.model(y, "depth 0 2; depth 1 3; new 4;");
         check.due("lots", y.make(9, 20), 20);
-        int[] lots = lots(9, 20);
+        int[] lots = Edges.lots(9, 20);
         int latest = 0;
         int before = -1;
         int many = 1;
