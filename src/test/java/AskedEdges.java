@@ -32,7 +32,7 @@ final class AskedEdges {
 
     private static void kinds(Edges e) {
         MadeTraffic x = told();
-        e.says("Terms 3", "0 PART; 1 GAPS, a PART");
+        e.says("Terms 3", "KINDS of PARTS: 0 PART; 1 GAPS, a PART");
         isOf(e, x, 0, 0, 1);
         e.says("Terms 3", "2 NAMES, a PART");
         isOf(e, x, 1, 0, 2);
@@ -110,7 +110,7 @@ final class AskedEdges {
             asked(e, x, part, 0, -sizes[part], 14, 10);
             asked(e, new MadeTraffic(), part, 0, 0, 14, 10);
         }
-        e.says("Terms 4", "else that of the nearest KIND that it is, too, else the one that is lent");
+        e.says("Terms 4", "Of an ask the BODY told for the KIND begins, else that of the nearest KIND that it is, too, else the one that is lent");
         for (int part = 0; part < 4; part++) {
             asked(e, x, part, 1, part, 20);
             asked(e, new MadeTraffic(), part, 1, part, 20);
@@ -118,7 +118,7 @@ final class AskedEdges {
     }
 
     private static void traces(Edges e) {
-        e.says("Terms 4", "each of which leaves its number in THE TRACE as it begins (the first 16)");
+        e.says("Terms 4", "ASKS of PARTS, by BODIES, each of which leaves its number in THE TRACE as it begins (the first 16)");
         // No ask begins more than six bodies; they do not add up over asks.
         MadeTraffic x = told();
         for (int i = 0; i < 4; i++) {
@@ -196,7 +196,7 @@ final class AskedEdges {
     }
 
     private static void count(Edges e) {
-        e.says("Promise 29", "0 SHEETS, 1 TRUE ASKS, 2 MADE ones, 3 PARTS that are EMPTY, 4 in THE PURSE, 5 bytes on the tape.");
+        e.says("Promise 29", "How many: 0 SHEETS, 1 TRUE ASKS, 2 MADE ones, 3 PARTS that are EMPTY, 4 in THE PURSE, 5 bytes on the tape.");
         MadeTraffic x = Edges.withNames(new int[40]);
         for (int sheet = 0; sheet < 8; sheet++) {
             x.sheet(sheet, 0, 0);

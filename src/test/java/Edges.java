@@ -1,13 +1,13 @@
 import java.io.IOException;
 import java.nio.file.Files;
 import java.nio.file.Path;
+import java.util.BitSet;
 import java.util.LinkedHashMap;
 import java.util.Map;
-import java.util.TreeSet;
 
 /**
  * Checks that stand under a sentence of the document. A sentence must stand in the part of the document
- * that is told with it, and must have checks; each promise must have a sentence.
+ * that is told with it, and must have checks; of the terms and the promises no word may be left unsaid.
  */
 final class Edges {
     static final int NONE = MadeTraffic.NONE, BAD = MadeTraffic.BAD, STATE = MadeTraffic.STATE, FULL = MadeTraffic.FULL;
@@ -20,7 +20,7 @@ final class Edges {
     }
 
     private final Map<String, String> parts = partsOf(DOCUMENT);
-    private final TreeSet<String> partsSaid = new TreeSet<>();
+    private final Map<String, BitSet> said = new LinkedHashMap<>();
     private String sentence = "";
     private int sentences = 0;
     private int checksOfSentence = 1;
@@ -38,12 +38,18 @@ final class Edges {
                 } else if (line.startsWith("======== ")) {
                     part = "Terms " + line.charAt(9);
                 }
-                parts.merge(part, line.trim() + " ", String::concat);
+                parts.merge(part, wordsOf(line) + " ", String::concat);
             }
         } catch (IOException e) {
             System.out.println("the document cannot be read: " + e);
         }
         return parts;
+    }
+
+    /** A line without what only marks it: headings, fences, a call's face, where the interface says what. */
+    private static String wordsOf(String line) {
+        boolean isMark = line.startsWith("## ") || line.startsWith("```") || line.startsWith("Ahead of the calls ");
+        return isMark ? "" : line.replaceAll("^=+ \\d |^`[^`]*`: ", "").trim();
     }
 
     /** The checks up to the next sentence are of this one. */
@@ -52,9 +58,11 @@ final class Edges {
         sentence = part + ", \"" + words + "\"";
         sentences++;
         checksOfSentence = 0;
-        partsSaid.add(part);
-        if (!parts.getOrDefault(part, "").contains(words)) {
+        int from = parts.getOrDefault(part, "").indexOf(words);
+        if (from < 0) {
             tellWrong("is not in the document");
+        } else {
+            said.computeIfAbsent(part, p -> new BitSet()).set(from, from + words.length());
         }
     }
 
@@ -84,14 +92,31 @@ final class Edges {
     void end() {
         endSentence();
         for (int promise = 1; promise <= 30; promise++) {
-            if (!partsSaid.contains("Promise " + promise)) {
-                sentence = "Promise " + promise;
-                tellWrong("has no sentence here");
-            }
+            allIsSaid("Promise " + promise);
+        }
+        allIsSaid("Terms");
+        for (int group = 1; group <= 4; group++) {
+            allIsSaid("Terms " + group);
         }
         System.out.println(sentences + " sentences, " + checks + " checks, " + wrong + " wrong");
         if (wrong != 0) {
             System.exit(1);
+        }
+    }
+
+    private void allIsSaid(String part) {
+        String words = parts.getOrDefault(part, "");
+        BitSet there = said.getOrDefault(part, new BitSet());
+        sentence = part;
+        if (words.isBlank()) {
+            tellWrong("is not in the document");
+        }
+        StringBuilder unsaid = new StringBuilder(words);
+        there.stream().forEach(i -> unsaid.setCharAt(i, '\n'));
+        for (String left : unsaid.toString().split("\n+")) {
+            if (left.matches(".*[A-Za-z0-9].*")) {
+                tellWrong("has no check of \"" + left.trim() + "\"");
+            }
         }
     }
 

@@ -1,24 +1,78 @@
+import java.io.IOException;
 import java.lang.reflect.Constructor;
 import java.lang.reflect.Field;
 import java.lang.reflect.Method;
 import java.lang.reflect.Modifier;
+import java.nio.file.Files;
+import java.nio.file.Path;
+import java.util.ArrayList;
+import java.util.List;
 import java.util.TreeSet;
+import java.util.regex.Matcher;
+import java.util.regex.Pattern;
 
-/** The public face of the document, and the rules 1, 2, 5 and 11 of LANGUAGE.md that can be seen from the class. */
+/** The public face as the document writes it, and the rules 1, 2, 5 and 11 of LANGUAGE.md that can be seen from the class. */
 public final class FaceTest {
     private static final Check check = new Check();
-    private static final String[] FACE = {
-        "sheet(int,int,int)", "set(int,int,int)", "copy(int,int,int,int,int)", "drop(int)", "asks(int,int,int)",
-        "told(int,int,int)", "came(int)", "feed(long,int)", "model()", "fault()", "weight(int,int)",
-        "leave(int,int)", "make(long,int)", "stretch(int)", "house(int,int,int)", "number(int,int,int)",
-        "unlike(int)", "worth(int,int)", "cost(int)", "best(int)", "shape(int,int)", "learn(int,int,long)",
-        "guess(int,int,int)", "kind(int)", "as(int,int)", "ask(int,int)", "trace(int)", "count(int)", "status()"};
+    private static final Path DOCUMENT = Path.of("../shared/DOC.md");
+    private static final Path SOURCE = Path.of("src/main/java/MadeTraffic.java");
+    private static final Pattern FACE_CALL = Pattern.compile("    public int (\\w+)\\(([^)]*)\\);");
+    private static final Pattern SECTION = Pattern.compile("Ahead of the calls (.*) the interface says: (---- .*)\\.");
 
-    public static void main(String[] args) {
+    public static void main(String[] args) throws IOException {
+        List<String> document = Files.readAllLines(DOCUMENT);
         constants();
-        face();
-        inside();
+        TreeSet<String> calls = callsOf(document);
+        check.due("calls in the document", calls.size(), 29);
+        face(calls);
+        inside(calls);
+        written(document, Files.readString(SOURCE));
         check.end();
+    }
+
+    /** The document's calls as name(type,type). */
+    private static TreeSet<String> callsOf(List<String> document) {
+        TreeSet<String> calls = new TreeSet<>();
+        for (String line : document) {
+            Matcher call = FACE_CALL.matcher(line);
+            if (call.matches()) {
+                calls.add(call.group(1) + "(" + call.group(2).replaceAll("(\\w+) \\w+", "$1").replace(" ", "") + ")");
+            }
+        }
+        return calls;
+    }
+
+    /** The source has the document's lines of the face, and its sections with their calls, in its order. */
+    private static void written(List<String> document, String source) {
+        int sections = 0;
+        for (String line : document) {
+            if (FACE_CALL.matcher(line).matches()) {
+                check.isTrue("written so: " + line.trim(), source.contains("\n" + line.replace(";", " {\n")));
+            }
+            if (line.startsWith("    public static final ")) {
+                check.isTrue("written so: " + line.trim(), source.contains("\n" + line + "\n"));
+            }
+            Matcher section = SECTION.matcher(line);
+            if (section.matches()) {
+                sections++;
+                check.isTrue(line, callsBehind("\n    // " + section.group(2) + "\n", source).equals(section.group(1)));
+            }
+        }
+        check.due("sections", sections, 7);
+    }
+
+    private static String callsBehind(String mark, String source) {
+        int from = source.indexOf(mark);
+        if (from < 0) {
+            return "no such mark";
+        }
+        int end = source.indexOf("\n    // ----", from + mark.length());
+        Matcher head = Pattern.compile("\n    public int (\\w+)\\(").matcher(source.substring(from, end < 0 ? source.length() : end));
+        List<String> calls = new ArrayList<>();
+        while (head.find()) {
+            calls.add("`" + head.group(1) + "`");
+        }
+        return String.join(", ", calls);
     }
 
     private static void constants() {
@@ -36,10 +90,10 @@ public final class FaceTest {
         return text.append(')').toString();
     }
 
-    private static void face() {
+    private static void face(TreeSet<String> calls) {
         Class<?> face = MadeTraffic.class;
         check.isTrue("public final", Modifier.isPublic(face.getModifiers()) && Modifier.isFinal(face.getModifiers()));
-        TreeSet<String> due = new TreeSet<>(java.util.List.of(FACE));
+        TreeSet<String> due = new TreeSet<>(calls);
         for (Method m : face.getDeclaredMethods()) {
             if (Modifier.isPrivate(m.getModifiers())) {
                 continue;
@@ -57,12 +111,12 @@ public final class FaceTest {
                 shown.add(f.getName());
             }
         }
-        check.isTrue("constants alone: " + shown, shown.equals(new TreeSet<>(java.util.List.of("NONE", "BAD", "STATE", "FULL"))));
+        check.isTrue("constants alone: " + shown, shown.equals(new TreeSet<>(List.of("NONE", "BAD", "STATE", "FULL"))));
     }
 
-    private static void inside() {
+    private static void inside(TreeSet<String> calls) {
         TreeSet<String> names = new TreeSet<>();
-        for (String signature : FACE) {
+        for (String signature : calls) {
             names.add(signature.substring(0, signature.indexOf('(')));
         }
         Class<?>[] classes = MadeTraffic.class.getDeclaredClasses();

@@ -56,7 +56,7 @@ final class FitEdges {
         e.due("1 of 3, 1 of 3", x.cost(1), 24 + 4);
         Check.model(x, "new 99;");
         e.due("99 of 101, 1 of 101", x.cost(1), 24 + 1 + 7);
-        e.says("Terms 3", "for each ASK of the TRUE row the BITS of what it has there");
+        e.says("Terms 3", "and for each ASK of the TRUE row the BITS of what it has there");
         x = Edges.withAsks(3, 0, 2, 3, 0, 5, 6, 0, 2);
         Check.model(x, "gap 3 3; gap 0 1; great 2 1; great 5 3;");
         e.due("gaps 3 0 3", x.cost(0), 16 + 1 + 2 + 1);
@@ -133,7 +133,7 @@ final class FitEdges {
     }
 
     private static void grid(Edges e) {
-        e.says("Terms 3", "shapes 0 to 3 give DEPTH d the WEIGHT 9; 10 - d; 9 by (d and 1), cut; 9 for d 0, else 1; with each NEW 1 to 9.");
+        e.says("Terms 3", "GRID: shapes 0 to 3 give DEPTH d the WEIGHT 9; 10 - d; 9 by (d and 1), cut; 9 for d 0, else 1; with each NEW 1 to 9.");
         MadeTraffic x = new MadeTraffic();
         for (int shape = 0; shape < 4; shape++) {
             e.due("shape " + shape, x.shape(shape, 1 + 2 * shape), 1);

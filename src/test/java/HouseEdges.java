@@ -23,7 +23,7 @@ final class HouseEdges {
     }
 
     private static void limits(Edges e) {
-        e.says("Terms 2", "a cache for c NAMES (1 to 6)");
+        e.says("Terms 2", "A HOUSE: a cache for c NAMES (1 to 6)");
         MadeTraffic x = Edges.withNames(0, 1, 2, 3, 4, 5, 6, 6, 5, 4, 3, 2, 1, 0);
         e.due("c 0", x.house(0, 1, 0), Edges.BAD);
         for (int c = 1; c <= 6; c++) {
@@ -120,7 +120,7 @@ final class HouseEdges {
     }
 
     private static void numbers(Edges e) {
-        e.says("Terms 2", "0 hits, 1 WAITS added, 2 the longest WAIT, 3 the last end, 4 unlike NAMES, 5 how often a NAME went out of the cache.");
+        e.says("Terms 2", "NUMBERS: 0 hits, 1 WAITS added, 2 the longest WAIT, 3 the last end, 4 unlike NAMES, 5 how often a NAME went out of the cache.");
         // Takes 7 7 1 7 7 1 from tick 0 on, all come at 0: waits 0 7 14 15 22 29.
         numbersAre(e, Edges.withNames(0, 1, 0, 2, 1, 1), 0, 0, 2, 87, 29, 30, 3, 2);
         e.due("as many names as the cache has room for", Edges.withNames(0, 1).number(0, 5, 0), 0);
@@ -179,7 +179,7 @@ final class HouseEdges {
     }
 
     private static void likes(Edges e) {
-        e.says("Terms 2", "the MADE row's is no farther from the TRUE row's than those of the HALVES are from one another");
+        e.says("Terms 2", "LIKE in a NUMBER: the MADE row's is no farther from the TRUE row's than those of the HALVES are from one another");
         // Two true names; the halves have two and one: a made row may have one to three.
         MadeTraffic x = Edges.withNames(0, 0, 1);
         Check.model(x, "new 1;");

@@ -58,7 +58,7 @@ final class MadeEdges {
     }
 
     private static void draws(Edges e) {
-        e.says("Terms 2", "where they come to W (above 0): LOT modulo W, the first by numbers up to which WEIGHTS, added, are more than that");
+        e.says("Terms 2", "A DRAW by WEIGHTS: where they come to W (above 0): LOT modulo W, the first by numbers up to which WEIGHTS, added, are more than that");
         MadeTraffic x = Edges.withModel("gap 2 3; gap 5 2; gap 9 1;");
         int[] gaps = {2, 2, 2, 5, 5, 9};
         for (int rest = 0; rest < 6; rest++) {
@@ -152,7 +152,7 @@ final class MadeEdges {
     }
 
     private static void ticks(Edges e) {
-        e.says("Terms 2", "the TICK of the first from 0 on");
+        e.says("Terms 2", "MADE are n ASKS one by one, the TICK of the first from 0 on");
         MadeTraffic x = Edges.withModel("gap 0 1;");
         x.make(1, 40);
         e.due("gap 0: the first", x.told(1, 0, 0), 0);
@@ -275,6 +275,15 @@ final class MadeEdges {
             e.due("f " + f, x.stretch(f), 2 * f);
         }
         e.due("f 5", x.stretch(5), Edges.BAD);
+        e.says("Terms 3", "the MADE row becomes the TRUE row's ASKS");
+        x.make(1, 40);
+        e.due("in place of 40", x.stretch(1), 2);
+        for (int i = 0; i < 3; i++) {
+            for (int what = 0; what < 5; what++) {
+                e.due("ask " + i + " as in the true row, " + what, x.told(1, i, what), x.told(0, i, what));
+            }
+        }
+        x.stretch(4);
         e.says("Terms 3", "each f times at its TICK, of the j-th (0 on) the NAME (its NAME and j) modulo 10");
         int[][] due = {{4, 8, 3}, {4, 9, 3}, {4, 0, 3}, {4, 1, 3}, {6, 9, 7}, {6, 0, 7}, {6, 1, 7}, {6, 2, 7}};
         for (int i = 0; i < 8; i++) {

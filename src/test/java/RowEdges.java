@@ -44,6 +44,14 @@ final class RowEdges {
     }
 
     private static void rows(Edges e) {
+        e.says("Terms 1", "ROWS of ASKS: 0 the TRUE one, 1 the MADE one");
+        MadeTraffic two = Edges.withAsks(5, 3, 7);
+        two.make(1, 2);
+        e.due("row 0, what was asked", two.told(0, 0, 1), 3);
+        e.due("row 0, one ask", two.told(0, 1, 1), Edges.NONE);
+        e.due("row 1, what was made", two.told(1, 0, 1), 0);
+        e.due("row 1, two asks", two.told(1, 1, 0), 2);
+        e.due("no row 2", two.told(2, 0, 1), Edges.BAD);
         e.says("Terms 1", "40 at most each");
         MadeTraffic x = Edges.withNames(new int[40]);
         e.due("40 true ones", x.count(1), 40);
@@ -174,6 +182,21 @@ final class RowEdges {
     private static void tellings(Edges e) {
         MadeTraffic x = Edges.withAsks(2, 3, 4, 5, 3, 1);
         x.make(1, 1);
+        e.says("Promise 7", "Of ASK i of a row (0 TRUE, 1 MADE): 0 TICK, 1 NAME, 2 GREATNESS");
+        int[][] asked = {{2, 3, 4}, {5, 3, 1}};
+        for (int i = 0; i < 2; i++) {
+            for (int what = 0; what < 3; what++) {
+                e.due("true ask " + i + ", " + what, x.told(0, i, what), asked[i][what]);
+            }
+        }
+        int[] made = {1, 0, 1};
+        for (int what = 0; what < 3; what++) {
+            e.due("made ask, " + what, x.told(1, 0, what), made[what]);
+        }
+        e.says("Promise 7", "4 GAP");
+        e.due("of the first", x.told(0, 0, 4), 2);
+        e.due("of the second", x.told(0, 1, 4), 3);
+        e.due("of a made one", x.told(1, 0, 4), 1);
         e.says("Promise 7", "3 DEPTH (NONE: NEW)");
         e.due("NEW", x.told(0, 0, 3), Edges.NONE);
         e.due("not NEW", x.told(0, 1, 3), 0);

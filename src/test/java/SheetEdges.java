@@ -22,13 +22,13 @@ final class SheetEdges {
             e.due("set " + sheet, x.set(sheet, 0, 1), 1);
         }
         e.due("all are there", x.count(0), 8);
-        e.says("Terms 1", "have a LANE (0 bytes, 1 shorts, 2 ints)");
+        e.says("Terms 1", "or have a LANE (0 bytes, 1 shorts, 2 ints)");
         int[] cut = {0x78, 0x5678, 0x12345678};
         for (int lane = 0; lane < 3; lane++) {
             x.sheet(0, lane, 1);
             e.due("lane " + lane, x.set(0, 0, 0x12345678), cut[lane]);
         }
-        e.says("Terms 1", "0 to 60 ITEMS");
+        e.says("Terms 1", "and 0 to 60 ITEMS");
         e.due("none", x.sheet(0, 2, 0), 0);
         e.due("no first place", x.set(0, 0, 1), Edges.PLACE);
         e.due("60", x.sheet(0, 2, 60), 60);

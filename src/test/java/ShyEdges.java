@@ -9,6 +9,7 @@ final class ShyEdges {
         weights(e);
         learning(e);
         guesses(e);
+        readers(e);
         guessing(e);
     }
 
@@ -75,7 +76,7 @@ final class ShyEdges {
     }
 
     private static void leastCounts(Edges e) {
-        e.says("Terms 3", "a least count k (0 to 9)");
+        e.says("Terms 3", "and a least count k (0 to 9)");
         MadeTraffic x = Edges.withNames(0, 0, 0, 0, 0, 0, 0, 0, 0, 0);
         e.due("k -1", x.learn(0, -1, 1), Edges.BAD);
         e.due("k 0", x.learn(0, 0, 1), 90);
@@ -173,6 +174,33 @@ final class ShyEdges {
             e.due("above of " + d[0] + " " + d[1], x.guess(d[0], d[1], 0), d[2]);
             e.due("below of " + d[0] + " " + d[1], x.guess(d[0], d[1], 1), d[3]);
         }
+    }
+
+    private static void readers(Edges e) {
+        e.says("Terms 3", "and knows both what they are with someone in, and that each is one less without; both are as likely.");
+        MadeTraffic x = new MadeTraffic();
+        for (int r = 0; r <= 4; r++) {
+            for (int n = 1; n <= 3; n++) {
+                long all = 2 * Math.round(Math.pow(2 * r + 1, n));
+                e.due("r " + r + ", n " + n, all * x.guess(r, n, 0), sightsGuessed(r, n) * x.guess(r, n, 1));
+            }
+        }
+    }
+
+    /** Of what can be seen (each count from one less on) the ways that the likelier of both has, added. */
+    private static long sightsGuessed(int r, int n) {
+        int side = 2 * r + 2;
+        long right = 0;
+        for (int sight = 0; sight < Math.pow(side, n); sight++) {
+            boolean isWith = true;
+            boolean isWithout = true;
+            for (int i = 0, rest = sight; i < n; i++, rest /= side) {
+                isWith &= rest % side > 0;
+                isWithout &= rest % side < side - 1;
+            }
+            right += isWith || isWithout ? 1 : 0;
+        }
+        return right;
     }
 
     private static void guessing(Edges e) {

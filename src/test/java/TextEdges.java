@@ -35,7 +35,7 @@ final class TextEdges {
     }
 
     private static void tape(Edges e) {
-        e.says("Terms 1", "THE TAPE has at most 400 bytes");
+        e.says("Terms 1", "TEXTS: THE TAPE has at most 400 bytes");
         MadeTraffic x = new MadeTraffic();
         Check.feed(x, " ".repeat(393) + "new 99");
         e.due("399", x.count(5), 399);
@@ -51,7 +51,7 @@ final class TextEdges {
     }
 
     private static void letters(Edges e) {
-        e.says("Terms 1", "NAMES (letters a to z)");
+        e.says("Terms 1", "TOKENS: NAMES (letters a to z)");
         fault(e, "new 1 az;", 6, 1);
         fault(e, "aznew 1;", 0, 1);
         fault(e, "newa 1;", 0, 1);
@@ -167,7 +167,10 @@ final class TextEdges {
         limit(e, "gap ", " 1;", 0, 9);
         e.says("Terms 1", "a DEPTH 0 to 9");
         limit(e, "depth ", " 1;", 0, 9);
-        e.says("Terms 1", "of a GREATNESS 1 to 9");
+        e.says("Terms 1", "of NEW, of a GREATNESS 1 to 9");
+        MadeTraffic x = Edges.withModel("new 5; great 1 6;");
+        e.due("of NEW", x.weight(1, 10), 5);
+        e.due("of greatness 1", x.weight(2, 1), 6);
         limit(e, "great ", " 1;", 1, 9);
         fault(e, "great 0 1;", 6, 2);
         fault(e, "great 0000 1;", 6, 2);
@@ -254,6 +257,12 @@ final class TextEdges {
     }
 
     private static void partsLeftOut(Edges e) {
+        e.says("Terms 1", "PARTS: 0 gaps, 1 names (depths, NEW), 2 greatness, 3 walk");
+        MadeTraffic each = Edges.withModel("gap 4 1; depth 4 2; new 3; great 4 4; walk 1 1 5;");
+        int[][] weights = {{0, 4, 1}, {1, 4, 2}, {1, 10, 3}, {2, 4, 4}, {3, 4, 5}};
+        for (int[] w : weights) {
+            e.due("part " + w[0] + ", " + w[1], each.weight(w[0], w[1]), w[2]);
+        }
         e.says("Terms 1", "each may be LEFT OUT (as if all its WEIGHTS were 0)");
         String text = "gap 4 1; new 1; great 5 1; walk 0 2 1;";
         MadeTraffic none = new MadeTraffic();
